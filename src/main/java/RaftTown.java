@@ -285,27 +285,14 @@ public final class RaftTown {
         }
         ahead.begin(now.lagoon, now.town, quarter);
         for (int i = 0; i < now.actCount; i++) {
-            int how = otherHow(i);
-            if (how >= 0) {
-                return 10 * i + how;
+            for (int how = 0; how < HOWS && now.hows[i] != WAIT_HOW; how++) {
+                probe.follow(ahead);
+                if (how != now.hows[i] && probe.step(how, now.whos[i]) && probe.runFrom(now, i + 1) == NONE) {
+                    return 10 * i + how;
+                }
             }
             if (!ahead.step(now.hows[i], now.whos[i])) {
                 return NONE;
-            }
-        }
-        return NONE;
-    }
-
-    private int otherHow(int i) {
-        if (now.hows[i] == WAIT_HOW) {
-            return NONE;
-        }
-        for (int how = 0; how < HOWS; how++) {
-            if (how != now.hows[i]) {
-                probe.follow(ahead);
-                if (probe.step(how, now.whos[i]) && probe.runFrom(now, i + 1) == NONE) {
-                    return how;
-                }
             }
         }
         return NONE;
@@ -848,6 +835,17 @@ public final class RaftTown {
             return sum;
         }
 
+        /** WANTS that are of a RAFT, as bits. */
+        int bitsAbout(int r) {
+            int bits = 0;
+            for (int i = 0; i < wantCount; i++) {
+                if (whos[i] == r || kinds[i] <= APART && whats[i] == r) {
+                    bits |= 1 << i;
+                }
+            }
+            return bits;
+        }
+
         /** WANTS that are so, as bits, the RAFTS lying on these CELLS, and together on covered ones. */
         int soBits(long[] covers, long covered) {
             int bits = 0;
@@ -1079,7 +1077,7 @@ public final class RaftTown {
         private Lagoon lagoon;
         final int[] counts = new int[RAFTS];
         final int[] spots = new int[RAFTS * MOST];
-        final long[] covers = new long[RAFTS * MOST];
+        private final long[] covers = new long[RAFTS * MOST];
         private final int[] numbers = new int[RAFTS * SPOTS];
         final int[] onward = new int[RAFTS * MOST * HOWS];
         private final long[] together = new long[RAFTS * RAFTS * MOST];
@@ -1176,23 +1174,24 @@ public final class RaftTown {
             return state >> 6 * (RAFTS - 1 - r) & 63;
         }
 
+        long coverIn(int state, int r) {
+            return covers[r * MOST + numberIn(state, r)];
+        }
+
         static int withNumber(int state, int r, int number) {
             int shift = 6 * (RAFTS - 1 - r);
             return state & ~(63 << shift) | number << shift;
         }
 
-        boolean goWell(int a, int p, int b, int q) {
-            return (together[(a * RAFTS + b) * MOST + p] >>> q & 1) != 0;
-        }
-
-        /** Whether RAFT r at number p goes together with each other one of a state. */
-        boolean fits(int r, int p, int state) {
-            for (int other = 0; other < RAFTS; other++) {
-                if (other != r && !goWell(r, p, other, numberIn(state, other))) {
-                    return false;
+        /** The numbers of RAFT r that go together with each other one up to the last as they lie in a state. */
+        long roomFor(int r, int state, int last) {
+            long room = -1L;
+            for (int other = 0; other <= last && other < RAFTS; other++) {
+                if (other != r) {
+                    room &= together[(other * RAFTS + r) * MOST + numberIn(state, other)];
                 }
             }
-            return true;
+            return room;
         }
     }
 
@@ -1218,6 +1217,8 @@ public final class RaftTown {
         int[] acts = new int[64];
         int actCount;
         final int[] allSpots = new int[Berths.RAFTS];
+        private int allMost;
+        private int allState;
         int allRafts;
         int allLeft = NONE;
 
@@ -1306,9 +1307,10 @@ public final class RaftTown {
             int state = stateAt(head);
             for (int r = 0; r < rafts && r < Berths.RAFTS; r++) {
                 int first = (r * Berths.MOST + Berths.numberIn(state, r)) * HOWS;
+                long room = berths.roomFor(r, state, Berths.RAFTS - 1);
                 for (int how = 0; how < HOWS; how++) {
                     int p = berths.onward[first + how];
-                    if (p >= 0 && berths.fits(r, p, state)) {
+                    if (p >= 0 && (room >>> p & 1) != 0) {
                         int next = Berths.withNumber(state, r, p);
                         if (isNew(next)) {
                             push(next, r * HOWS + how, head);
@@ -1350,7 +1352,7 @@ public final class RaftTown {
         private int soBitsOf(Lagoon lagoon, int state) {
             long covered = 0;
             for (int r = 0; r < Berths.RAFTS; r++) {
-                covers[r] = berths.covers[r * Berths.MOST + Berths.numberIn(state, r)];
+                covers[r] = berths.coverIn(state, r);
                 covered |= covers[r];
             }
             return lagoon.wishes.soBits(covers, covered);
@@ -1384,27 +1386,41 @@ public final class RaftTown {
 
         int mostMetAnywhere(Lagoon lagoon) {
             berths.list(lagoon);
-            int best = NONE;
-            int bestState = 0;
+            allMost = NONE;
+            allState = 0;
+            int ofLast = lagoon.wishes.bitsAbout(Berths.RAFTS - 1);
             for (int p = 0; p < berths.counts[0]; p++) {
+                long room = berths.roomFor(1, p << 12, 0);
                 for (int q = 0; q < berths.counts[1]; q++) {
-                    if (berths.goWell(0, p, 1, q)) {
-                        int pair = p << 12 | q << 6;
-                        for (int last = 0; last < berths.counts[2]; last++) {
-                            int state = pair | last;
-                            if (berths.fits(2, last, state)) {
-                                int met = lagoon.wishes.worthOf(soBitsOf(lagoon, state));
-                                if (met > best) {
-                                    best = met;
-                                    bestState = state;
-                                }
-                            }
-                        }
+                    int pair = p << 12 | q << 6;
+                    if ((room >>> q & 1) != 0 && mostWith(lagoon, pair, ofLast) > allMost) {
+                        tryLast(lagoon, pair);
                     }
                 }
             }
-            keepAll(lagoon, bestState);
-            return best;
+            keepAll(lagoon, allState);
+            return allMost;
+        }
+
+        /** No less than what can be MET as two RAFTS lie, wherever the last one comes to lie. */
+        private int mostWith(Lagoon lagoon, int pair, int ofLast) {
+            covers[0] = berths.coverIn(pair, 0);
+            covers[1] = berths.coverIn(pair, 1);
+            covers[2] = 0;
+            return lagoon.wishes.worthOf(lagoon.wishes.soBits(covers, covers[0] | covers[1]) | ofLast);
+        }
+
+        private void tryLast(Lagoon lagoon, int pair) {
+            long room = berths.roomFor(2, pair, 1);
+            for (int last = 0; last < berths.counts[2]; last++) {
+                if ((room >>> last & 1) != 0) {
+                    int met = lagoon.wishes.worthOf(soBitsOf(lagoon, pair | last));
+                    if (met > allMost) {
+                        allMost = met;
+                        allState = pair | last;
+                    }
+                }
+            }
         }
 
         private void keepAll(Lagoon lagoon, int state) {
@@ -1511,20 +1527,27 @@ public final class RaftTown {
             } else {
                 start = place;
                 readRun();
+                if (kind == WORD) {
+                    known = wordOf(value);
+                }
             }
         }
 
+        /** All small letters and digits from here on; one kind of them, and not too many, are a TOKEN. */
         private void readRun() {
             int letters = 0;
             int digits = 0;
             value = 0;
-            while (place < length && (isLetter(bytes[place]) || isDigit(bytes[place]))) {
-                if (isLetter(bytes[place])) {
+            while (place < length) {
+                int sign = bytes[place];
+                if (sign >= 'a' && sign <= 'z') {
                     letters++;
-                    value = value << 5 | bytes[place] - 'a' + 1;
-                } else {
+                    value = value << 5 | sign - 'a' + 1;
+                } else if (sign >= '0' && sign <= '9') {
                     digits++;
-                    value = value * 10 + bytes[place] - '0';
+                    value = value * 10 + sign - '0';
+                } else {
+                    break;
                 }
                 place++;
             }
@@ -1532,18 +1555,9 @@ public final class RaftTown {
             kind = NO_TOKEN;
             if (digits == 0 && letters >= 1 && letters <= 6) {
                 kind = WORD;
-                known = wordOf(value);
             } else if (letters == 0 && digits >= 1 && digits <= 8) {
                 kind = NUMBER;
             }
-        }
-
-        private static boolean isLetter(int sign) {
-            return sign >= 'a' && sign <= 'z';
-        }
-
-        private static boolean isDigit(int sign) {
-            return sign >= '0' && sign <= '9';
         }
 
         private int wordOf(int letters) {
@@ -1618,28 +1632,24 @@ public final class RaftTown {
             tidesTold = 0;
             int lines = 0;
             while (lines < LAGOON_MOST && goesOn()) {
-                readLine();
+                switch (known) {
+                    case ROW: readRow(); break;
+                    case TIDE: readTide(); break;
+                    case RAFT: readNewRaft(); break;
+                    case POLE: readPole(); break;
+                    case ROPE: readRope(); break;
+                    case MOOR: readMoor(); break;
+                    case BESIDE: readPairWant(Wishes.BESIDE); break;
+                    case APART: readPairWant(Wishes.APART); break;
+                    case SUN: readSun(); break;
+                    case LIES: readLies(); break;
+                    case SQUARE: readSquare(); break;
+                    default: fail(1);
+                }
                 readStop();
                 lines++;
             }
             return lines;
-        }
-
-        private void readLine() {
-            switch (known) {
-                case ROW: readRow(); break;
-                case TIDE: readTide(); break;
-                case RAFT: readNewRaft(); break;
-                case POLE: readPole(); break;
-                case ROPE: readRope(); break;
-                case MOOR: readMoor(); break;
-                case BESIDE: readPairWant(Wishes.BESIDE); break;
-                case APART: readPairWant(Wishes.APART); break;
-                case SUN: readSun(); break;
-                case LIES: readLies(); break;
-                case SQUARE: readSquare(); break;
-                default: fail(1);
-            }
         }
 
         private void readRow() {
@@ -1759,33 +1769,32 @@ public final class RaftTown {
             }
         }
 
-        private void addWant(int kind, int who, int what) {
-            int worth = readNumber(1, 99);
+        private void addWant(int wish, int who, int what, int worth) {
             if (fault == 0) {
-                fresh.wishes.add(kind, who, what, worth);
+                fresh.wishes.add(wish, who, what, worth);
             }
         }
 
-        private void readPairWant(int kind) {
+        private void readPairWant(int wish) {
             countWant();
             int a = readRaft(fresh);
             int b = readRaft(fresh);
             if (a == b) {
                 fail(3);
             }
-            addWant(kind, a, b);
+            addWant(wish, a, b, readNumber(1, 99));
         }
 
         private void readSun() {
             countWant();
             int r = readRaft(fresh);
-            addWant(Wishes.SUN, r, readSide());
+            addWant(Wishes.SUN, r, readSide(), readNumber(1, 99));
         }
 
         private void readLies() {
             countWant();
             int r = readRaft(fresh);
-            addWant(Wishes.LIES, r, readCell());
+            addWant(Wishes.LIES, r, readCell(), readNumber(1, 99));
         }
 
         private void readSquare() {
