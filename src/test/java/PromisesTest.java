@@ -454,6 +454,9 @@ public final class PromisesTest {
         is("floats(1)", t.floats(1), 1 << 2);
         is("floats(2)", t.floats(2), NONE);
         is("floats(-1)", t.floats(-1), NONE);
+        RaftTown high = town("row 99897988;raft a 2 1 1 0 0;raft b 2 1 1 2 0;raft c 2 1 1 4 0;raft d 1 1 1 6 0;");
+        is("aground(0)", high.aground(0), 15);
+        is("breaks(0): 9 and 9, 8 and 9, 7 and 9, 8 alone", high.breaks(0), 4);
         RaftTown dry = town("row 99;tide 0 0;raft a 1 1 0 0 0;raft b 1 1 1 1 0;");
         is("DRAFT 0 FLOATS on no WATER", dry.floats(0), EVERY_HOUR);
         is("floats(1)", dry.floats(1), 0);
@@ -1047,6 +1050,9 @@ public final class PromisesTest {
         is("no such RAFT", t.cut(5, 1, 0), NONE);
         is("no such RAFT", t.cut(-1, 1, 0), NONE);
         is("no such force", t.cut(0, 100, 0), NONE);
+        is("force 99", t.cut(4, 99, 0), 0);
+        is("force 99", t.cut(4, 99, 1), 0);
+        is("force 0", t.cut(2, 0, 0), 0);
         is("no such force", t.cut(0, -1, 0), NONE);
         is("no such what", t.cut(0, 1, 2), NONE);
         is("no such what", t.cut(0, 1, -1), NONE);
