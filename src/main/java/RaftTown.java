@@ -835,15 +835,27 @@ public final class RaftTown {
             return sum;
         }
 
-        /** WANTS that are of a RAFT, as bits. */
-        int bitsAbout(int r) {
+        /** WANTS of one of two RAFTS, and of no third one, as bits. */
+        int bitsWithin(int a, int b) {
             int bits = 0;
             for (int i = 0; i < wantCount; i++) {
-                if (whos[i] == r || kinds[i] <= APART && whats[i] == r) {
+                boolean ofTwo = kinds[i] == SUN || kinds[i] == LIES || whats[i] == a || whats[i] == b;
+                if (ofTwo && (whos[i] == a || whos[i] == b)) {
                     bits |= 1 << i;
                 }
             }
             return bits;
+        }
+
+        /** Puts W together for each set of WANTS, as bits, into a row of numbers. */
+        void sumUp(int[] sums) {
+            sums[0] = 0;
+            for (int i = 0; i < wantCount; i++) {
+                int half = 1 << i;
+                for (int set = half; set < 2 * half && set < sums.length; set++) {
+                    sums[set] = sums[set - half] + worths[i];
+                }
+            }
         }
 
         /** WANTS that are so, as bits, the RAFTS lying on these CELLS, and together on covered ones. */
@@ -1081,6 +1093,9 @@ public final class RaftTown {
         private final int[] numbers = new int[RAFTS * SPOTS];
         final int[] onward = new int[RAFTS * MOST * HOWS];
         private final long[] together = new long[RAFTS * RAFTS * MOST];
+        /** Of RAFTS 0 and 1, 0 and 2, 1 and 2, number by number: the WANTS that are not so as these two lie. */
+        private final int[] notSo = new int[RAFTS * MOST * MOST];
+        private final long[] pairCovers = new long[RAFTS_MOST];
 
         Berths(Lagoon first) {
             lagoon = first;
@@ -1138,6 +1153,39 @@ public final class RaftTown {
             }
         }
 
+        void weigh() {
+            for (int a = 0; a < RAFTS; a++) {
+                for (int b = a + 1; b < RAFTS; b++) {
+                    weighTwo(a, b);
+                }
+            }
+        }
+
+        private void weighTwo(int a, int b) {
+            int within = lagoon.wishes.bitsWithin(a, b);
+            Arrays.fill(pairCovers, 0L);
+            for (int p = 0; p < counts[a]; p++) {
+                pairCovers[a] = covers[a * MOST + p];
+                for (int q = 0; q < counts[b]; q++) {
+                    pairCovers[b] = covers[b * MOST + q];
+                    int so = lagoon.wishes.soBits(pairCovers, pairCovers[a] | pairCovers[b]);
+                    notSo[((a + b - 1) * MOST + p) * MOST + q] = within & ~so;
+                }
+            }
+        }
+
+        /** WANTS that are not so as RAFTS 0 and 1 lie in a state, the third one wherever it may. */
+        int notSoByTwo(int state) {
+            return notSo[numberIn(state, 0) * MOST + numberIn(state, 1)];
+        }
+
+        /** WANTS that are not so: each is so if it is for each two of the RAFTS. */
+        int notSoIn(int state) {
+            int last = numberIn(state, 2);
+            return notSoByTwo(state) | notSo[(MOST + numberIn(state, 0)) * MOST + last]
+                    | notSo[(2 * MOST + numberIn(state, 1)) * MOST + last];
+        }
+
         void link(int hour) {
             for (int r = 0; r < lagoon.raftCount && r < RAFTS; r++) {
                 for (int p = 0; p < counts[r]; p++) {
@@ -1172,10 +1220,6 @@ public final class RaftTown {
 
         static int numberIn(int state, int r) {
             return state >> 6 * (RAFTS - 1 - r) & 63;
-        }
-
-        long coverIn(int state, int r) {
-            return covers[r * MOST + numberIn(state, r)];
         }
 
         static int withNumber(int state, int r, int number) {
@@ -1213,7 +1257,8 @@ public final class RaftTown {
         private int goal;
         private int goalAt;
         private final Town walker;
-        private final long[] covers = new long[RAFTS_MOST];
+        /** W together of each set of WANTS. */
+        private final int[] sums = new int[1 << WANTS_MOST];
         int[] acts = new int[64];
         int actCount;
         final int[] allSpots = new int[Berths.RAFTS];
@@ -1326,17 +1371,19 @@ public final class RaftTown {
             int start = berths.stateOf(from);
             begin(start, NO_GOAL);
             isNew(start);
-            int most = lagoon.wishes.worthOf(-1);
+            berths.weigh();
+            lagoon.wishes.sumUp(sums);
+            int every = (1 << lagoon.wishes.wantCount) - 1;
             int best = NONE;
             int bestAt = 0;
             int done = 0;
             int lastOfDone = 1;
-            for (int head = 0; head < tail && head < STATES_MOST && best < most; head++) {
+            for (int head = 0; head < tail && head < STATES_MOST && best < sums[every]; head++) {
                 if (head == lastOfDone) {
                     done++;
                     lastOfDone = tail;
                 }
-                int met = lagoon.wishes.worthOf(soBitsOf(lagoon, stateAt(head)));
+                int met = sums[every & ~berths.notSoIn(stateAt(head))];
                 if (met > best) {
                     best = met;
                     bestAt = head;
@@ -1347,15 +1394,6 @@ public final class RaftTown {
             }
             trace(bestAt);
             return best;
-        }
-
-        private int soBitsOf(Lagoon lagoon, int state) {
-            long covered = 0;
-            for (int r = 0; r < Berths.RAFTS; r++) {
-                covers[r] = berths.coverIn(state, r);
-                covered |= covers[r];
-            }
-            return lagoon.wishes.soBits(covers, covered);
         }
 
         int leastAlone(Lagoon lagoon, Town from, int r, int spot, int hour) {
@@ -1386,50 +1424,39 @@ public final class RaftTown {
 
         int mostMetAnywhere(Lagoon lagoon) {
             berths.list(lagoon);
+            berths.weigh();
+            lagoon.wishes.sumUp(sums);
+            int every = (1 << lagoon.wishes.wantCount) - 1;
             allMost = NONE;
             allState = 0;
-            int ofLast = lagoon.wishes.bitsAbout(Berths.RAFTS - 1);
             for (int p = 0; p < berths.counts[0]; p++) {
                 long room = berths.roomFor(1, p << 12, 0);
                 for (int q = 0; q < berths.counts[1]; q++) {
                     int pair = p << 12 | q << 6;
-                    if ((room >>> q & 1) != 0 && mostWith(lagoon, pair, ofLast) > allMost) {
-                        tryLast(lagoon, pair);
+                    if ((room >>> q & 1) != 0 && sums[every & ~berths.notSoByTwo(pair)] > allMost) {
+                        tryLast(pair, every);
                     }
                 }
             }
-            keepAll(lagoon, allState);
+            allRafts = Math.min(lagoon.raftCount, Berths.RAFTS);
+            for (int r = 0; r < allRafts; r++) {
+                allSpots[r] = berths.spots[r * Berths.MOST + Berths.numberIn(allState, r)];
+            }
+            allLeft = berths.notSoIn(allState);
             return allMost;
         }
 
-        /** No less than what can be MET as two RAFTS lie, wherever the last one comes to lie. */
-        private int mostWith(Lagoon lagoon, int pair, int ofLast) {
-            covers[0] = berths.coverIn(pair, 0);
-            covers[1] = berths.coverIn(pair, 1);
-            covers[2] = 0;
-            return lagoon.wishes.worthOf(lagoon.wishes.soBits(covers, covers[0] | covers[1]) | ofLast);
-        }
-
-        private void tryLast(Lagoon lagoon, int pair) {
+        private void tryLast(int pair, int every) {
             long room = berths.roomFor(2, pair, 1);
             for (int last = 0; last < berths.counts[2]; last++) {
                 if ((room >>> last & 1) != 0) {
-                    int met = lagoon.wishes.worthOf(soBitsOf(lagoon, pair | last));
+                    int met = sums[every & ~berths.notSoIn(pair | last)];
                     if (met > allMost) {
                         allMost = met;
                         allState = pair | last;
                     }
                 }
             }
-        }
-
-        private void keepAll(Lagoon lagoon, int state) {
-            allRafts = Math.min(lagoon.raftCount, Berths.RAFTS);
-            for (int r = 0; r < allRafts; r++) {
-                allSpots[r] = berths.spots[r * Berths.MOST + Berths.numberIn(state, r)];
-            }
-            int every = (1 << lagoon.wishes.wantCount) - 1;
-            allLeft = every & ~soBitsOf(lagoon, state);
         }
     }
 
