@@ -1,4 +1,3 @@
-import java.nio.charset.StandardCharsets;
 import java.util.NoSuchElementException;
 
 /** Each promise by hand: ordinary inputs, the edges that the document names, wrong inputs. */
@@ -59,26 +58,9 @@ public final class PromisesTest {
 
     private static void is(String call, boolean got, boolean want) { is(call, got ? 1 : 0, want ? 1 : 0); }
 
-    private static void feedBytes(RaftTown t, byte[] bytes) {
-        for (int i = 0; i < bytes.length; i += 20) {
-            int[] n = new int[5];
-            for (int k = 0; k < 20; k++) n[k / 4] = n[k / 4] << 8 | (i + k < bytes.length ? bytes[i + k] & 255 : 0);
-            t.feed(n[0], n[1], n[2], n[3], n[4]);
-        }
-        t.end(bytes.length);
-    }
-
-    private static void feedText(RaftTown t, String text) { feedBytes(t, text.getBytes(StandardCharsets.ISO_8859_1)); }
-
-    private static void feedTown(RaftTown t, int... numbers) {
-        byte[] bytes = new byte[numbers.length];
-        for (int i = 0; i < bytes.length; i++) bytes[i] = (byte) numbers[i];
-        feedBytes(t, bytes);
-    }
-
     private static RaftTown town(String text) {
         RaftTown t = new RaftTown();
-        feedText(t, text);
+        Tape.text(t, text);
         int lines = t.lagoon();
         if (lines < 0) {
             wrong++;
@@ -88,7 +70,7 @@ public final class PromisesTest {
     }
 
     private static void planIs(RaftTown t, String text, int acts) {
-        feedText(t, text);
+        Tape.text(t, text);
         is("plan() of " + text, t.plan(), acts);
     }
 
@@ -97,7 +79,7 @@ public final class PromisesTest {
         int place = marked.indexOf('@');
         String text = marked.replace("@", "");
         RaftTown t = new RaftTown();
-        feedText(t, text);
+        Tape.text(t, text);
         is("lagoon() of " + text, t.lagoon(), -1 - place);
         is("fault() of " + text, t.fault(), kind);
         is("count(1) after it", t.count(1), 0);
@@ -106,7 +88,7 @@ public final class PromisesTest {
 
     private static void sound(String text, int lines) {
         RaftTown t = new RaftTown();
-        feedText(t, text);
+        Tape.text(t, text);
         is("lagoon() of " + text, t.lagoon(), lines);
         is("fault() of " + text, t.fault(), 0);
     }
@@ -198,17 +180,17 @@ public final class PromisesTest {
         sound(TWO_RAFTS + "rope a b 9 99;", 5);
         sound(TWO_RAFTS + "square 2 1 1 1;", 5);
         RaftTown t = town(TWO_RAFTS);
-        feedText(t, "wait 3;");
+        Tape.text(t, "wait 3;");
         t.plan();
         t.move(0, 1, 0);
-        feedText(t, TWO_RAFTS);
+        Tape.text(t, TWO_RAFTS);
         is("lagoon()", t.lagoon(), 4);
         is("count(6), no PLAN", t.count(6), 0);
         raftAt(t, 0, 0, 0, 0);
-        feedText(t, "wait 3;");
+        Tape.text(t, "wait 3;");
         t.plan();
         t.move(0, 1, 0);
-        feedText(t, "row 0;x");
+        Tape.text(t, "row 0;x");
         is("lagoon()", t.lagoon(), -7);
         is("it stays: count(6)", t.count(6), 1);
         raftAt(t, 0, 1, 0, 0);
@@ -363,7 +345,7 @@ public final class PromisesTest {
         promise = "5";
         RaftTown t = town(TWO_RAFTS);
         is("fault()", t.fault(), 0);
-        feedText(t, "tide 24 1;");
+        Tape.text(t, "tide 24 1;");
         t.lagoon();
         is("fault()", t.fault(), 2);
         is("fault() again", t.fault(), 2);
@@ -413,7 +395,7 @@ public final class PromisesTest {
     private static void laying() {
         promise = "9";
         RaftTown t = town("row 000;row 000;row 999;raft a 2 1 0 0 0;raft b 1 1 0 2 0;rope a b 0 1;");
-        feedTown(t, 1, 0, 1, 0, 2, 1);
+        Tape.town(t, 1, 0, 1, 0, 2, 1);
         is("lay()", t.lay(), true);
         is("count(7)", t.count(7), 0);
         raftAt(t, 0, 1, 0, 1);
@@ -423,14 +405,14 @@ public final class PromisesTest {
         int[][] not = {{2, 0, 0, 0, 2, 0}, {0, 2, 1, 1, 0, 0}, {0, 0, 2, 2, 0, 0}, {0, 0, 0, 1, 0, 0}, {3, 0, 1, 0, 0, 0}, {0, 3, 0, 0, 0, 0},
             {255, 0, 0, 0, 0, 0}, {0, 0, 0, 2, 0, 255}, {0, 0, 0, 2, 0}, {0, 0, 0, 2, 0, 0, 0}, {}};
         for (int[] town : not) {
-            feedTown(t, town);
+            Tape.town(t, town);
             is("lay() of " + java.util.Arrays.toString(town), t.lay(), false);
             is("count(7)", t.count(7), 0);
             raftAt(t, 0, 1, 0, 1);
             raftAt(t, 1, 0, 2, 0);
         }
         // A rope that is too short then is of no matter.
-        feedTown(t, 0, 0, 0, 2, 2, 0);
+        Tape.town(t, 0, 0, 0, 2, 2, 0);
         is("lay()", t.lay(), true);
         is("gap(0, 1)", t.gap(0, 1), 1);
     }
@@ -559,10 +541,10 @@ public final class PromisesTest {
         is("5 ahead of 6", five.move(1, 1, 0), 5);
         // A rope that was too short stays WRONG, even if the SLIDE brings them nearer.
         RaftTown far = town("row 00000;raft a 1 1 0 0 0;raft b 1 1 0 1 0;rope b a 0 1;");
-        feedTown(far, 0, 0, 0, 4, 0, 0);
+        Tape.town(far, 0, 0, 0, 4, 0, 0);
         far.lay();
         is("6", far.move(1, 3, 0), 6);
-        feedTown(far, 0, 0, 0, 2, 0, 0);
+        Tape.town(far, 0, 0, 0, 2, 0, 0);
         far.lay();
         is("0", far.move(1, 3, 0), 0);
     }
@@ -719,7 +701,7 @@ public final class PromisesTest {
         is("first", t.judged(3), 93);
         is("quarters", t.judged(1), 194);
         // The ACT that is WRONG takes no QUARTER.
-        feedTown(t, 2, 0, 0);
+        Tape.town(t, 2, 0, 0);
         t.lay();
         planIs(t, "slide a east;", 1);
         is("judge(48)", t.judge(48), 0);
@@ -731,7 +713,7 @@ public final class PromisesTest {
         promise = "19, 20, of that LAGOON";
         RaftTown t = town(TWO_RAFTS + "lies b 2 1 5;");
         is("judge(3)", t.judge(3), NONE);
-        feedText(t, "row 0;");
+        Tape.text(t, "row 0;");
         t.lagoon();
         is("b X", t.judgedAt(1, 0), 2);
         is("b Y", t.judgedAt(1, 1), 1);
@@ -784,7 +766,7 @@ public final class PromisesTest {
         planIs(t, "turn a;slide a south;", 2);
         is("0 as east", t.instead(40), 1);
         planIs(t, "slide a north;", 1);
-        feedTown(t, 0, 0, 1);
+        Tape.town(t, 0, 0, 1);
         t.lay();
         is("east of a high one", t.instead(40), 1);
         planIs(t, "wait 96;", 1);
@@ -798,31 +780,31 @@ public final class PromisesTest {
     private static void leastActs() {
         promise = "23, 27";
         RaftTown t = town("row 000;row 000;raft a 1 1 0 0 0;raft b 1 1 0 2 1;");
-        feedTown(t, 2, 0, 0, 0, 1, 0);
+        Tape.town(t, 2, 0, 0, 0, 1, 0);
         is("least(0)", t.least(0), 4);
         foundIs(t, 1, 1, 13, 13);
         is("count(7)", t.count(7), 0);
         raftAt(t, 0, 0, 0, 0);
-        feedTown(t, 2, 1, 0, 0, 0, 0);
+        Tape.town(t, 2, 1, 0, 0, 0, 0);
         // a east, east, then b has to be off 2 1; a south is less than b north then.
         is("least(0)", t.least(0), 6);
         foundIs(t, 1, 1, 13, 2, 10, 13);
-        feedTown(t, 0, 0, 1, 2, 1, 1);
+        Tape.town(t, 0, 0, 1, 2, 1, 1);
         is("already there", t.least(23), 0);
         foundIs(t);
-        feedTown(t, 1, 0, 0, 2, 1, 0);
+        Tape.town(t, 1, 0, 0, 2, 1, 0);
         is("least(5)", t.least(5), 1);
         foundIs(t, 1);
         int[][] not = {{0, 0, 0, 0, 0, 0}, {3, 0, 0, 0, 0, 0}, {0, 0, 0}, {}, {0, 0, 2, 1, 1, 0}};
         for (int[] town : not) {
-            feedTown(t, town);
+            Tape.town(t, town);
             is("least(0) of " + java.util.Arrays.toString(town), t.least(0), -2);
             is("count(7)", t.count(7), 0);
             foundIs(t, 1);
         }
-        feedTown(t, 1, 0, 0, 2, 1, 0);
+        Tape.town(t, 1, 0, 0, 2, 1, 0);
         is("least(24)", t.least(24), -2);
-        feedTown(t, 1, 0, 0, 2, 1, 0);
+        Tape.town(t, 1, 0, 0, 2, 1, 0);
         is("least(-1)", t.least(-1), -2);
         foundIs(t, 1);
     }
@@ -830,39 +812,39 @@ public final class PromisesTest {
     private static void leastWithWalls() {
         promise = "23, what is in the way";
         RaftTown t = town("row 000;row 090;tide 7 9;raft a 1 1 1 0 1;pole 2 0;pole 0 0;");
-        feedTown(t, 2, 1, 0);
+        Tape.town(t, 2, 1, 0);
         is("around", t.least(0), 4);
         foundIs(t, 0, 1, 1, 2);
-        feedTown(t, 1, 1, 0);
+        Tape.town(t, 1, 1, 0);
         is("no WATER at the end", t.least(0), NONE);
         foundIs(t, 0, 1, 1, 2);
         t = town("row 000;raft a 2 1 0 0 0;pole 1 0;");
-        feedTown(t, 1, 0, 0);
+        Tape.town(t, 1, 0, 0);
         is("one slide", t.least(0), 1);
         t = town("row 000;row 000;row 000;raft a 3 1 0 0 1;pole 1 1;");
-        feedTown(t, 1, 0, 1);
+        Tape.town(t, 1, 0, 1);
         is("a TURN", t.least(0), 1);
         foundIs(t, 4);
-        feedTown(t, 0, 0, 1);
+        Tape.town(t, 0, 0, 1);
         is("a TURN and a SLIDE", t.least(0), 2);
         foundIs(t, 4, 3);
         // Four RAFTS, 26 CELLS and more.
         t = town("row 0000;raft a 1 1 0 0 0;raft b 1 1 0 1 0;raft c 1 1 0 2 0;");
-        feedTown(t, 0, 0, 0, 1, 0, 0, 3, 0, 0);
+        Tape.town(t, 0, 0, 0, 1, 0, 0, 3, 0, 0);
         is("three RAFTS", t.least(0), 1);
         t = town("row 0000;raft a 1 1 0 0 0;raft b 1 1 0 1 0;raft c 1 1 0 2 0;raft d 1 1 0 3 0;");
-        feedTown(t, 0, 0, 0, 1, 0, 0, 2, 0, 0, 3, 0, 0);
+        Tape.town(t, 0, 0, 0, 1, 0, 0, 2, 0, 0, 3, 0, 0);
         is("four RAFTS", t.least(0), -2);
         is("changed", t.changed(0, 1, 0), -2);
         is("best", t.best(0, 0), -2);
         is("all", t.all(), -2);
         is("alone", t.alone(0, 0, 0, 0, 0), 0);
         t = town("row 00000;".repeat(5) + "raft a 1 1 0 0 0;");
-        feedTown(t, 4, 4, 0);
+        Tape.town(t, 4, 4, 0);
         is("25 CELLS", t.least(0), 8);
         foundIs(t, 1, 1, 1, 1, 2, 2, 2, 2);
         t = town("row 0000000;".repeat(4) + "raft a 1 1 0 0 0;raft b 1 1 0 1 0;");
-        feedTown(t, 0, 0, 0, 1, 0, 0);
+        Tape.town(t, 0, 0, 0, 1, 0, 0);
         is("28 CELLS", t.least(0), -2);
         is("changed", t.changed(0, 1, 0), -2);
         is("best", t.best(0, 0), -2);
@@ -890,7 +872,7 @@ public final class PromisesTest {
         t = town("row 0000;row 0000;raft a 2 1 0 0 0;raft b 1 1 0 1 1;");
         is("a and b side by side", t.changed(0, 1, 0), 4);
         t = town("row 000;row 000;row 000;raft a 2 1 0 0 0;raft b 1 1 0 1 1;");
-        feedTown(t, 0, 0, 1, 2, 0, 0);
+        Tape.town(t, 0, 0, 1, 2, 0, 0);
         t.lay();
         is("turned as they are", t.changed(0, 1, 0), 6);
         foundIs(t, 1, 2, 1, 13, 0, 13);
@@ -970,7 +952,7 @@ public final class PromisesTest {
         is("allAt(0, 3)", t.allAt(0, 3), NONE);
         is("allAt(0, -1)", t.allAt(0, -1), NONE);
         raftAt(t, 0, 0, 0, 0);
-        feedText(t, "row 0000;raft a 1 1 0 0 0;raft b 1 1 0 1 0;raft c 1 1 0 2 0;raft d 1 1 0 3 0;");
+        Tape.text(t, "row 0000;raft a 1 1 0 0 0;raft b 1 1 0 1 0;raft c 1 1 0 2 0;raft d 1 1 0 3 0;");
         t.lagoon();
         is("all() of four", t.all(), -2);
         is("it stays", t.left(), 2);
@@ -1094,9 +1076,9 @@ public final class PromisesTest {
         t.move(0, 2, 0);
         planIs(t, "wait 5;", 1);
         is("image(1)", t.image(1), true);
-        feedText(t, "row 9;tide 2 1;raft z 1 1 0 0 0;lies z 0 0 1;");
+        Tape.text(t, "row 9;tide 2 1;raft z 1 1 0 0 0;lies z 0 0 1;");
         t.lagoon();
-        feedText(t, "abc");
+        Tape.text(t, "abc");
         t.all();
         is("restore(0)", t.restore(0), true);
         is("the tape stays", t.count(7), 3);
@@ -1130,7 +1112,7 @@ public final class PromisesTest {
     }
 
     private static int planOf(RaftTown t, String text) {
-        feedText(t, text);
+        Tape.text(t, text);
         return t.plan();
     }
 
