@@ -111,7 +111,7 @@ final class KeepEdges {
     }
 
     private static final String KEPT = "row 0008;row 0398;tide 2 7;raft a 1 1 0 0 1;raft b 2 1 1 0 0;raft c 1 1 1 2 0;raft d 1 2 1 3 0;"
-            + "rope b c 1 4;rope d c 0 6;moor b 5;pole 3 1;pole 0 0;beside d a 7;apart c b 5;lies b 0 1 3;sun c east 2;square 2 1 1 1;";
+            + "rope b c 1 4;rope d c 0 6;moor b 5;pole 3 1;pole 0 1;beside d a 7;apart c b 5;lies b 0 1 3;sun c east 2;square 2 1 1 1;";
 
     /** As kept by keep(): b turned on 1 0, c on 2 1. */
     private void keptIs(RaftTown t) {
@@ -146,7 +146,8 @@ final class KeepEdges {
         e.is("WANTS: c apart from b, b on 0 1", t.wants(1), 2 + 4);
         e.is("W", t.wants(0), 5 + 3);
         e.is("b from c, as far as its rope lets it", t.gap(1, 2), 1);
-        e.is("POLE 1 under it: to the west, beyond", t.move(1, 4, 0), 3);
+        e.is("as far, on 2 0", t.could(2, 2, 0, 0), Edges.EVERY_HOUR);
+        e.is("POLE 1 under it: to the east, on a", t.move(1, 4, 0), 4);
         e.lay(t, 2, 0, 0, 0, 0, 1, 1, 0, 0, 3, 0, 0);
         e.is("WANTS: d beside a, b on 0 1; a is in c's sun", t.wants(1), 1 + 4);
         e.is("W", t.wants(0), 7 + 3);
@@ -154,7 +155,7 @@ final class KeepEdges {
         e.lay(t, 0, 1, 0, 1, 0, 1, 2, 1, 0, 3, 0, 0);
     }
 
-    private static final String OTHER = "row 99990;row 99999;row 99999;tide 2 1;tide 1 1;raft z 3 1 9 1 2;raft y 1 1 0 0 0;moor z 99;pole 3 2;sun z east 1;square 3 2 1 1;";
+    private static final String OTHER = "row 99990;row 99999;row 99999;tide 2 1;tide 1 1;raft z 3 1 9 1 2;raft y 1 1 0 0 0;moor z 99;pole 0 1;sun z east 1;square 3 2 1 1;";
 
     private void otherIs(RaftTown t) {
         int[] counts = {5, 3, 2, 1, 0, 1, 0};
@@ -166,7 +167,9 @@ final class KeepEdges {
         e.is("aground(0)", t.aground(0), 1);
         e.is("storm(33)", t.storm(33), 2);
         e.is("no rope", t.move(1, 2, 0), 0);
+        e.is("the POLE", t.move(1, 4, 0), 0);
         e.is("and back", t.move(1, 0, 0), 0);
+        e.is("no POLE", t.move(1, 4, 0), 2);
         e.is("wants(1)", t.wants(1), 1);
     }
 

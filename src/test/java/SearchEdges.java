@@ -89,7 +89,7 @@ final class SearchEdges {
         String[] small = {"row 00000000;".repeat(3), "row 000;".repeat(8), "row 000000;".repeat(4), "row 0000;".repeat(6)};
         lastSpots();
         for (String rows : small) {
-            t = e.town(rows + "raft a 1 2 0 0 0;raft b 2 1 0 1 0;raft c 1 1 0 0 2;lies c 1 2 9;");
+            t = e.town(rows + "raft a 1 2 0 0 0;raft b 2 1 0 1 0;raft c 2 1 0 0 2;lies c 2 2 9;");
             e.is("24 CELLS: best", t.best(4, 0), 9);
             e.is("24 CELLS: all", t.all(), 9);
         }
@@ -131,6 +131,9 @@ final class SearchEdges {
             e.lies(t, r, 3, 4, 1);
             e.is("alone, to where it lies", t.alone(r, 3, 4, 1, 0), 0);
         }
+        RaftTown unlike = e.town(FIVE + "raft a 1 2 0 0 0;raft b 1 1 0 1 0;raft c 1 1 0 2 0;lies a 0 0 5;lies a 0 1 5;lies c 0 1 9;");
+        e.is("c on 0 1, a turned on 0 0", unlike.all(), 14);
+        e.is("without a POLE a stays", unlike.best(60, 0), 10);
     }
 
     /** Does what was found, in hour 0. */
@@ -488,11 +491,23 @@ final class SearchEdges {
         leastTo(t, 0, NONE, 2, 0, 0);
         e.is("alone", t.alone(0, 2, 1, 0, 0), NONE);
         leastTo(t, 0, 1, 0, 1, 0);
+        byTheHour();
         e.tellLagoon(t, "row 0000;row 0000;raft a 1 1 0 0 0;raft b 2 1 0 2 0;lies b 0 1 9;lies a 3 1 9;");
         e.is("all()", t.all(), 18);
         e.is("best(60, 0)", t.best(60, 0), 18);
         e.is("best(1, 0)", t.best(1, 0), 0);
         e.is("changed", t.changed(0, 1, 0), 6);
+    }
+
+    /** In hour 1 a can come over 1 0, in hour 0 it can't: what hour 1 found is nothing to hour 0. */
+    private void byTheHour() {
+        RaftTown t = e.town("row 0400;row 0999;row 0999;tide 1 9;raft a 1 1 2 0 0;lies a 2 0 9;lies a 3 2 1;");
+        leastTo(t, 1, 3, 3, 0, 0);
+        leastTo(t, 0, NONE, 3, 0, 0);
+        e.is("best(60, 1)", t.best(60, 1), 9);
+        e.is("best(60, 0)", t.best(60, 0), 0);
+        e.is("alone in hour 1", t.alone(0, 3, 0, 0, 1), 3);
+        e.is("alone in hour 0", t.alone(0, 3, 0, 0, 0), NONE);
     }
 
     private void promise28() {

@@ -552,6 +552,11 @@ final class TextEdges {
             e.tellLagoon(t, "row 00;row 00;raft a 1 2 1 0 0;raft h 1 1 0 1 1;");
             plainOne(t);
         }
+        for (int ground = 0; ground < 10; ground++) {
+            e.tellLagoon(t, "row " + ground + ground + ";raft a 2 1 2 0 0;tide 0 0;");
+            e.is("GROUND " + ground, t.aground(1), ground > 3 ? 1 : 0);
+            e.is("GROUND " + ground, t.breaks(0), 0);
+        }
     }
 
     private void plainOne(RaftTown t) {
