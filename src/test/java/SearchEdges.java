@@ -134,6 +134,12 @@ final class SearchEdges {
         RaftTown unlike = e.town(FIVE + "raft a 1 2 0 0 0;raft b 1 1 0 1 0;raft c 1 1 0 2 0;lies a 0 0 5;lies a 0 1 5;lies c 0 1 9;");
         e.is("c on 0 1, a turned on 0 0", unlike.all(), 14);
         e.is("without a POLE a stays", unlike.best(60, 0), 10);
+        String[] pairs = {"a b", "a c", "b c"};
+        for (String pair : pairs) {
+            RaftTown t = e.town(three + "beside " + pair + " 5;apart " + pair + " 5;lies b 4 4 2;");
+            e.is("WANTS that can't all be, of " + pair, t.all(), 7);
+            e.is("the same in BEST", t.best(60, 0), 7);
+        }
     }
 
     /** Does what was found, in hour 0. */
