@@ -464,7 +464,10 @@ final class SearchEdges {
         e.is("behind -2", fresh.found(0), NONE);
     }
 
-    /** The way to where they can pass one another, on 1 0, is twelve CELLS long. */
+    /**
+     * The way to where they can pass one another, on 1 0, is long. That a and c change places in 76 ACTS, b and c in 46,
+     * was not counted by hand: PlainModel answers so, too.
+     */
     private static final String LONG_WAY = "row 00000000;row 90999990;row 90900000;raft a 1 1 1 3 2;raft b 1 1 1 4 2;raft c 1 1 1 5 2;";
 
     private void longest() {
